@@ -913,10 +913,9 @@ public final class CradleDuel {
       return faultAt == NONE;
     }
 
+    // only the first one counts
     private void fail() {
-      if (isGood()) {
-        faultAt = place;
-      }
+      faultAt = faultAt == NONE ? place : faultAt;
     }
 
     private static int kindOf(int sign) {
@@ -1004,12 +1003,17 @@ public final class CradleDuel {
       }
       script.openClause(kind);
       step();
-      if (ofLaws) {
-        if (kind != Script.BARS) {
-          readWholeSum(clause, 0);
-        }
-      } else {
-        readOrderSums(clause, kind);
+      boolean isBegin = !ofLaws && kind == OrderRun.BEGIN;
+      if (ofLaws ? kind != Script.BARS : isBegin || kind == OrderRun.SING) {
+        readWholeSum(clause, 0);
+      }
+      if (isBegin) {
+        takeWord("with");
+        readWholeSum(clause, 1);
+        takeWord("for");
+        readWholeSum(clause, 2);
+      }
+      if (!ofLaws) {
         readTimes(clause);
       }
       if (isWord("if")) {
@@ -1017,18 +1021,6 @@ public final class CradleDuel {
         script.test[clause] = script.length;
         readTest();
         script.put(Script.END, 0);
-      }
-    }
-
-    private void readOrderSums(int clause, int kind) {
-      if (kind == OrderRun.BEGIN) {
-        readWholeSum(clause, 0);
-        takeWord("with");
-        readWholeSum(clause, 1);
-        takeWord("for");
-        readWholeSum(clause, 2);
-      } else if (kind == OrderRun.SING) {
-        readWholeSum(clause, 0);
       }
     }
 
@@ -1092,23 +1084,19 @@ public final class CradleDuel {
           deep--;
         }
       } else {
-        readComparison();
+        readSum();
+        int joint = isSign('<') ? Script.LESS : isSign('>') ? Script.MORE : Script.EQUAL;
+        if (joint == Script.EQUAL && !isSign('=')) {
+          fail();
+          return;
+        }
+        step();
+        readSum();
+        script.put(joint, 0);
       }
       if (turned) {
         script.put(Script.NOT, 0);
       }
-    }
-
-    private void readComparison() {
-      readSum();
-      int joint = isSign('<') ? Script.LESS : isSign('>') ? Script.MORE : isSign('=') ? Script.EQUAL : NONE;
-      if (joint == NONE) {
-        fail();
-        return;
-      }
-      step();
-      readSum();
-      script.put(joint, 0);
     }
 
     private boolean goDeeper() {
@@ -1320,12 +1308,15 @@ public final class CradleDuel {
       return isTold(Script.WAKES) ? nearest(told, MOST_WAKE) : WAKES_WITHOUT;
     }
 
-    // as a stranger of that SKILL and WAKE hears it
-    int lullsStranger(int verse, int singer, int hour, int same, int wake, int skill) {
+    // a VERSE that a stranger of that SKILL hears: lullsAt() is of that one then
+    void setStranger(int verse, int singer, int hour, int same, int skill) {
       setVerse(verse, singer, hour, same);
-      sums.word[WAKE] = wake;
       sums.word[THEIRS] = skill;
       sums.word[DAY] = hills.stand.day;
+    }
+
+    int lullsAt(int wake) {
+      sums.word[WAKE] = wake;
       return lullByWords();
     }
 
@@ -1969,12 +1960,12 @@ public final class CradleDuel {
 
   /** WAKE that FITS what was seen of a stranger. */
   static final class Strangers {
+    private static final int SLEPT = SIGHT_WIDTH - 1;
+
     private final Hills hills;
     private final Singing singing;
-    // how each SIGHT LULLS, where that does not hang on the stranger's WAKE
-    private final int[] lulls = new int[MOST_SIGHTS];
-    private final int[] awake = new int[MOST_WAKE];
-    private boolean byWake;
+    // what is left behind all SIGHTS of each WAKE one may have had; NONE: it does not FIT
+    private final int[] left = new int[MOST_WAKE + 1];
 
     Strangers(Hills hills, Singing singing) {
       this.hills = hills;
@@ -1982,9 +1973,9 @@ public final class CradleDuel {
     }
 
     int leastWake(int skill) {
-      prepare(skill);
+      hearAll(skill);
       for (int wake = 1; wake <= MOST_WAKE; wake++) {
-        if (wakeLeft(wake, skill) != NONE) {
+        if (left[wake] != NONE) {
           return wake;
         }
       }
@@ -1992,9 +1983,9 @@ public final class CradleDuel {
     }
 
     int greatestWake(int skill) {
-      prepare(skill);
+      hearAll(skill);
       for (int wake = MOST_WAKE; wake >= 1; wake--) {
-        if (wakeLeft(wake, skill) != NONE) {
+        if (left[wake] != NONE) {
           return wake;
         }
       }
@@ -2002,10 +1993,10 @@ public final class CradleDuel {
     }
 
     int howMany(int skill) {
-      prepare(skill);
+      hearAll(skill);
       int many = 0;
       for (int wake = 1; wake <= MOST_WAKE; wake++) {
-        if (wakeLeft(wake, skill) != NONE) {
+        if (left[wake] != NONE) {
           many++;
         }
       }
@@ -2013,20 +2004,19 @@ public final class CradleDuel {
     }
 
     int nextVerse(int skill, int singer) {
-      prepare(skill);
-      int many = 0;
+      hearAll(skill);
+      int awake = 0;
       for (int wake = 1; wake <= MOST_WAKE; wake++) {
-        int left = wakeLeft(wake, skill);
-        if (left > 0) {
-          awake[many] = left;
-          many++;
+        if (left[wake] > 0) {
+          awake++;
         }
       }
       int verse = NONE;
       int least = MOST_WAKE + 1;
-      for (int i = 0; i < hills.verses && many > 0; i++) {
-        int slept = howManySleep(many, i, singer, skill);
-        int more = Math.max(slept, many - slept);
+      for (int i = 0; i < hills.verses && awake > 0; i++) {
+        singing.setStranger(i, singer, 0, 0, skill);
+        int slept = howManySleep();
+        int more = Math.max(slept, awake - slept);
         if (more < least) {
           least = more;
           verse = i;
@@ -2035,43 +2025,39 @@ public final class CradleDuel {
       return verse;
     }
 
-    private void prepare(int skill) {
-      byWake = singing.isLullByWake();
-      for (int i = 0; i < hills.sights && !byWake; i++) {
-        lulls[i] = lullOfSight(i, MOST_WAKE, skill);
+    private void hearAll(int skill) {
+      for (int wake = 0; wake <= MOST_WAKE; wake++) {
+        left[wake] = wake;
       }
-    }
-
-    private int lullOfSight(int sight, int wake, int skill) {
       int[] seen = hills.seen;
-      int from = sight * SIGHT_WIDTH;
-      return singing.lullsStranger(seen[from], seen[from + 1], seen[from + 2], seen[from + 3], wake, skill);
-    }
-
-    // behind all SIGHTS; NONE, if they tell otherwise
-    private int wakeLeft(int wake, int skill) {
-      int left = wake;
       for (int i = 0; i < hills.sights; i++) {
-        if (left == 0) {
-          return NONE;
-        }
-        left = Math.max(0, left - (byWake ? lullOfSight(i, left, skill) : lulls[i]));
-        boolean toldSlept = hills.seen[i * SIGHT_WIDTH + 4] == 1;
-        if (toldSlept != (left == 0)) {
-          return NONE;
-        }
+        int from = i * SIGHT_WIDTH;
+        singing.setStranger(seen[from], seen[from + 1], seen[from + 2], seen[from + 3], skill);
+        hearOne(seen[from + SLEPT] == 1);
       }
-      return left;
     }
 
-    private int howManySleep(int many, int verse, int singer, int skill) {
-      int slept = 0;
-      int lull = byWake ? 0 : singing.lullsStranger(verse, singer, 0, 0, MOST_WAKE, skill);
-      for (int i = 0; i < many; i++) {
-        if (byWake) {
-          lull = singing.lullsStranger(verse, singer, 0, 0, awake[i], skill);
+    private void hearOne(boolean toldSlept) {
+      boolean byWake = singing.isLullByWake();
+      int lull = singing.lullsAt(MOST_WAKE);
+      for (int wake = 1; wake <= MOST_WAKE; wake++) {
+        int was = left[wake];
+        // who slept already hears no more, so this SIGHT can't be of that one
+        if (was <= 0) {
+          left[wake] = NONE;
+          continue;
         }
-        if (awake[i] <= lull) {
+        int now = Math.max(0, was - (byWake ? singing.lullsAt(was) : lull));
+        left[wake] = toldSlept == (now == 0) ? now : NONE;
+      }
+    }
+
+    private int howManySleep() {
+      boolean byWake = singing.isLullByWake();
+      int lull = singing.lullsAt(MOST_WAKE);
+      int slept = 0;
+      for (int wake = 1; wake <= MOST_WAKE; wake++) {
+        if (left[wake] > 0 && left[wake] <= (byWake ? singing.lullsAt(left[wake]) : lull)) {
           slept++;
         }
       }
