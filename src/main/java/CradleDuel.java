@@ -312,10 +312,7 @@ public final class CradleDuel {
     if (!hills.isVerse(verse) || !hills.isSinger(singer)) {
       return refuse(NO_SUCH);
     }
-    if (hills.sights >= MOST_SIGHTS) {
-      return refuse(NO_ROOM);
-    }
-    return accept(hills.addSight(verse, singer, hour, same, slept));
+    return tell(hills.addSight(verse, singer, hour, same, slept));
   }
 
   public int forget() {

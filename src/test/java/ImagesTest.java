@@ -75,6 +75,44 @@ public final class ImagesTest {
     DUE.is("hears nobody", x.hears(2, 0, 0), 0);
   }
 
+  private static void partsAndSights() {
+    CradleDuel x = Due.two(100, 80);
+    x.verse(30, 1);
+    x.piece(5, 1, 1);
+    x.piece(6, 1, 1);
+    x.sight(0, 0, 0, 0, 1);
+    x.image(0);
+    x.image(1);
+    x.forget();
+    x.sight(0, 1, 5, 1, 0);
+    DUE.is("PARTS", x.made(2, -1), 14);
+    x.back(0);
+    DUE.is("SIGHTS", x.fits(0, 1), 30);
+    x.back(1);
+    DUE.is("SIGHTS", x.fits(0, 1), 30);
+    // hills that were empty in the IMAGE, then full of other things
+    CradleDuel z = new CradleDuel();
+    z.image(0);
+    z.singer(9, 9, 1);
+    z.verse(9, 1);
+    z.piece(9, 1, 9);
+    z.image(1);
+    z.back(0);
+    z.singer(8, 8, 0);
+    z.verse(8, 2);
+    z.piece(8, 2, 8);
+    z.piece(8, 3, 1);
+    DUE.is("no neighbours", z.made(9, -1), 16);
+    z.back(1);
+    DUE.is("one PART", z.made(8, -1), -1);
+    DUE.is("one PART", z.made(9, -1), 9);
+    z.piece(1, 1, 1);
+    DUE.is("neighbours", z.made(10, -1), 13);
+    int[] due = {9, 9, 1};
+    for (int i = 0; i < 3; i++) DUE.is("SINGER", z.of(0, i), due[i]);
+    DUE.is("VERSE", z.at(0, 0) * 10 + z.at(0, 1), 91);
+  }
+
   private static void counts() {
     CradleDuel x = new CradleDuel();
     x.image(0);
@@ -135,6 +173,7 @@ public final class ImagesTest {
 
   public static void main(String[] args) {
     images();
+    partsAndSights();
     counts();
     statuses();
     DUE.end("promises 39 to 42");

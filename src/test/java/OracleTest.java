@@ -276,6 +276,25 @@ public final class OracleTest {
     else call("keep", singerNumber(), singerNumber(), some(0, 1));
   }
 
+  private void seeWell() throws Exception {
+    int dice = random.nextInt(12);
+    if (dice == 0) {
+      call("forget");
+    } else if (dice < 4) {
+      String[] laws = {
+        "lulls wake / ", "tires 1;lulls [wake + theirs] / ", "lulls wake % 7 + ", "lulls 5;tires wake;lulls 9 if wake > ",
+        "lulls strong * 3 if day < wake;tires ", "lulls skill + theirs * hour + ", "bars if wake > 1;lulls same * 50 + ",
+        "lulls 999 if wake < 9;lulls wake / 3 if wake > 100;wakes "};
+      feed(laws[random.nextInt(laws.length)] + (1 + random.nextInt(30)));
+      if (call("law") < 0) call("back", 0);
+      call("force", real.count(4) - 1);
+    } else if (dice < 7) {
+      call("sight", verseNumber(), singerNumber(), some(0, 11), some(0, 1), random.nextInt(7) == 0 ? 1 : 0);
+    } else {
+      call("fits", some(0, 9), some(0, 2 + Math.max(1, real.count(0))));
+    }
+  }
+
   private void partsWell() throws Exception {
     if (random.nextInt(3) == 0) call("piece", some(1, random.nextBoolean() ? 5 : 99), some(0, 2), some(1, 9));
     else call("made", some(1, 36), some(-1, 3));
@@ -288,7 +307,8 @@ public final class OracleTest {
   private void run() throws Exception {
     int singers = random.nextInt(9);
     int verses = random.nextInt(11);
-    int theme = random.nextInt(5);
+    int theme = random.nextInt(6);
+    call("image", 0);
     for (int i = 0; i < singers; i++) call("singer", wake(), some(0, 9), some(0, 1));
     for (int i = 0; i < verses; i++) call("verse", random.nextBoolean() ? some(1, 99) : some(1, 12), some(0, 4));
     if (random.nextInt(3) == 0) call("terms", 1, some(1, 60));
@@ -298,6 +318,7 @@ public final class OracleTest {
       else if (theme == 1) duelWell();
       else if (theme == 2) orderWell();
       else if (theme == 3) sleepWell();
+      else if (theme == 4) seeWell();
       else partsWell();
     }
   }

@@ -17,6 +17,8 @@ public final class StrangersTest {
     for (int[] b : bad) DUE.is("sight bad", x.sight(b[0], b[1], b[2], b[3], b[4]), -1);
     for (int i = 1; i <= 8; i++) DUE.is("sight", x.sight(1, 1, 11, 1, 0), i);
     DUE.is("no room", x.sight(1, 1, 11, 1, 0), -5);
+    DUE.is("status", x.status(), -5);
+    DUE.is("count(10)", x.count(10), 1);
     DUE.is("no such ahead of that", x.sight(2, 1, 11, 1, 0), -2);
     DUE.is("count(3)", x.count(3), 8);
     DUE.is("forget", x.forget(), 8);
@@ -84,6 +86,44 @@ public final class StrangersTest {
     x.sight(0, 0, 0, 0, 0);
     x.terms(0, 100);
     fits(x, 2, 301, 999, 699);
+  }
+
+  // the words of "lulls" alone tell whether WAKE matters, in whichever CLAUSE
+  private static void fittingByWake() {
+    String[] laws = {
+      "lulls wake / 2", "tires 1;lulls wake / 2", "lulls wake / 2;tires 1", "lulls 9;lulls wake / 2;bars", "lulls wake / 2;lulls 5 if 1 = 2",
+      "lulls 1 if wake > 10;lulls wake / 2"};
+    for (String law : laws) {
+      CradleDuel x = Due.two(100, 80);
+      x.verse(40, 0);
+      DUE.inForce(x, law);
+      for (int i = 0; i < 3; i++) x.sight(0, 0, 0, 0, 0);
+      fits(x, 1, 1, 999, 999, 0);
+    }
+    CradleDuel x = Due.two(100, 80);
+    x.verse(40, 0);
+    DUE.inForce(x, "lulls 100;tires wake;wakes wake;bars if wake > 0");
+    x.sight(0, 0, 0, 0, 0);
+    x.sight(0, 0, 0, 0, 0);
+    fits(x, 1, 201, 999, 799, 0);
+  }
+
+  private static void halves() {
+    CradleDuel x = Due.two(100, 80);
+    x.verse(40, 0);
+    x.verse(50, 0);
+    // 501 and 498 by the first VERSE, 499 and 500 by the second
+    DUE.inForce(x, "lulls 501;lulls 499 if strong = 50");
+    DUE.is("the more of both is least", x.fits(0, 3), 1);
+    // 500 and 499, 499 and 500
+    DUE.inForce(x, "lulls 500;lulls 499 if strong = 50");
+    DUE.is("the lowest", x.fits(0, 3), 0);
+    DUE.inForce(x, "lulls 499;lulls 500 if strong = 50");
+    DUE.is("the lowest", x.fits(0, 3), 0);
+    DUE.inForce(x, "lulls 498;lulls 501 if strong = 50");
+    DUE.is("501 each: the lowest", x.fits(0, 3), 0);
+    DUE.inForce(x, "lulls same;lulls 1 + hour if strong = 50");
+    DUE.is("HOUR 0, not SAME", x.fits(0, 3), 1);
   }
 
   private static void catchingSleep() {
@@ -154,6 +194,8 @@ public final class StrangersTest {
     sights();
     fitting();
     fittingByLaw();
+    fittingByWake();
+    halves();
     catchingSleep();
     keeping();
     DUE.end("promises 32 to 36");
