@@ -108,6 +108,19 @@ public final class ImagesTest {
     DUE.is("one PART", z.made(9, -1), 9);
     z.piece(1, 1, 1);
     DUE.is("neighbours", z.made(10, -1), 13);
+    z.singer(9, 9, 0);
+    z.image(0);
+    for (int i = 0; i < 6; i++) Due.law(z, "lulls " + (i + 1));
+    z.image(1);
+    z.back(0);
+    DUE.is("no LAWS", z.count(4), 0);
+    for (int i = 0; i < 6; i++) Due.law(z, "lulls 9");
+    z.back(1);
+    z.begin(0, 1, 1);
+    for (int i = 0; i < 6; i++) {
+      z.force(i);
+      DUE.is("LAW " + i, z.asks(0, 0), i + 1);
+    }
     int[] due = {9, 9, 1};
     for (int i = 0; i < 3; i++) DUE.is("SINGER", z.of(0, i), due[i]);
     DUE.is("VERSE", z.at(0, 0) * 10 + z.at(0, 1), 91);

@@ -124,6 +124,15 @@ public final class StrangersTest {
     DUE.is("501 each: the lowest", x.fits(0, 3), 0);
     DUE.inForce(x, "lulls same;lulls 1 + hour if strong = 50");
     DUE.is("HOUR 0, not SAME", x.fits(0, 3), 1);
+    CradleDuel y = Due.two(100, 80);
+    y.verse(40, 0);
+    DUE.inForce(y, "lulls 998");
+    y.sight(0, 0, 0, 0, 0);
+    fits(y, 0, 999, 999, 1, 0);
+    y.forget();
+    DUE.inForce(y, "lulls 1");
+    y.sight(0, 0, 0, 0, 1);
+    fits(y, 0, 1, 1, 1, -1);
   }
 
   private static void catchingSleep() {
