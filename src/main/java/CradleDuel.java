@@ -1665,10 +1665,10 @@ public final class CradleDuel {
     // for who has the turn: above 0, the other one sleeps; the further from 0, the sooner.
     // What is worth no more than least, or most and more, need not be told exactly.
     private int worthOf(int sung, int least, int most) {
-      Stand now = ahead[sung];
-      if (sung >= sungAhead || sung >= MOST_AHEAD || !now.isDuel()) {
+      if (sung >= sungAhead || sung >= MOST_AHEAD || !ahead[sung].isDuel()) {
         return 0;
       }
+      Stand now = ahead[sung];
       Stand next = ahead[sung + 1];
       int verse = NONE;
       int worth = 0;
