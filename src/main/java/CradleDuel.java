@@ -694,20 +694,29 @@ public final class CradleDuel {
       return force >= 0 && force < laws ? scripts[force] : null;
     }
 
+    // those who sleep already, and the one who falls ASLEEP beside them
+    private int asleepWith(int singer) {
+      int asleep = 1 << singer;
+      for (int i = 0; i < singers; i++) {
+        asleep |= stand.asleep[i] << i;
+      }
+      return asleep;
+    }
+
     private int oneRoundMore(int asleep, int away) {
+      int heard = asleep & ~away;
       int more = asleep;
       for (int i = 0; i < singers; i++) {
         boolean isAway = ((away >> i) & 1) == 1;
-        if (!isAway && stand.wake[i] <= catchWake && (hearing[i] & asleep) != 0) {
+        if (!isAway && stand.wake[i] <= catchWake && (hearing[i] & heard) != 0) {
           more |= 1 << i;
         }
       }
       return more;
     }
 
-    // who is led away neither hears nor falls ASLEEP, so nobody hears one ASLEEP there
     int asleepBehind(int singer, int away) {
-      int asleep = 1 << singer;
+      int asleep = asleepWith(singer);
       for (int round = 0; round < MOST_SINGERS; round++) {
         int more = oneRoundMore(asleep, away);
         if (more == asleep) {
@@ -719,7 +728,7 @@ public final class CradleDuel {
     }
 
     int roundsBehind(int singer) {
-      int asleep = 1 << singer;
+      int asleep = asleepWith(singer);
       int rounds = 0;
       while (rounds < MOST_SINGERS) {
         int more = oneRoundMore(asleep, 0);

@@ -925,6 +925,7 @@ public final class Oracle {
   // {bits, rounds}
   private int[] spread(int from, int away) {
     int bits = 1 << from;
+    for (int i = 0; i < w.singers.size(); i++) if (w.singers.get(i).asleep) bits |= 1 << i;
     int rounds = 0;
     while (true) {
       int more = 0;

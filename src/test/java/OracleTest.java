@@ -268,9 +268,17 @@ public final class OracleTest {
     if (random.nextInt(4) == 0) for (int i = 0; i < 17; i++) call("undo");
   }
 
+  // a DUEL to its end, so that somebody may be ASLEEP; now and then all are woken
+  private void singAsleep() throws Exception {
+    if (real.duel(0) < 0 && random.nextInt(5) == 0) call("dawn");
+    if (real.duel(0) < 0) beginWell();
+    for (int i = 0; i < 24 && real.duel(0) >= 0; i++) call("sing", verseNumber());
+  }
+
   private void sleepWell() throws Exception {
     int dice = random.nextInt(10);
-    if (dice < 5) call("hears", singerNumber(), singerNumber(), random.nextInt(5) == 0 ? 0 : 1);
+    if (random.nextInt(12) == 0) singAsleep();
+    else if (dice < 5) call("hears", singerNumber(), singerNumber(), random.nextInt(5) == 0 ? 0 : 1);
     else if (dice < 6) call("terms", 2, random.nextInt(3) == 0 ? some(0, 999) : 999);
     else if (dice < 7) call("catching", singerNumber(), some(0, 1));
     else call("keep", singerNumber(), singerNumber(), some(0, 1));

@@ -199,6 +199,82 @@ public final class StrangersTest {
     DUE.is("nobody is caught", x.keep(1, 0, 0), 0);
   }
 
+  // SINGER 1 is ASLEEP by a DUEL with 0; six more of WAKE 10 in CLAN 0
+  private static CradleDuel oneAsleep() {
+    CradleDuel x = new CradleDuel();
+    x.singer(900, 0, 0);
+    x.singer(1, 0, 1);
+    for (int i = 2; i < 8; i++) x.singer(10, 0, 0);
+    x.verse(1, 0);
+    x.begin(0, 1, 1);
+    DUE.is("1 sleeps", x.sing(0), 0);
+    DUE.is("1 sleeps", x.of(1, 3), 1);
+    return x;
+  }
+
+  private static void catchingBesideAsleep() {
+    CradleDuel x = oneAsleep();
+    DUE.is("0 and 1", x.catching(0, 0), 3);
+    DUE.is("no round", x.catching(0, 1), 0);
+    DUE.is("who is ASLEEP falls ASLEEP", x.catching(1, 0), 2);
+    DUE.is("no round", x.catching(1, 1), 0);
+    x.hears(2, 1, 1);
+    x.hears(3, 2, 1);
+    x.hears(4, 3, 1);
+    DUE.is("2, 3, 4 by 1, whoever falls ASLEEP", x.catching(7, 0), 2 | 4 | 8 | 16 | 128);
+    DUE.is("three rounds", x.catching(7, 1), 3);
+    x.hears(4, 7, 1);
+    DUE.is("4 at once by 7", x.catching(7, 1), 2);
+    x.hears(0, 1, 1);
+    DUE.is("0 has too much WAKE", x.catching(1, 0), 2 | 4 | 8 | 16);
+    x.terms(2, 9);
+    DUE.is("all others have, too", x.catching(7, 0), 2 | 128);
+    DUE.is("nobody", x.catching(7, 1), 0);
+    x.terms(2, 50);
+    DUE.is("on paper", x.of(2, 3), 0);
+    x.image(0);
+    x.dawn();
+    x.terms(2, 999);
+    DUE.is("nobody is ASLEEP behind a DAWN", x.catching(7, 0), 128 | 16);
+    DUE.is("one round", x.catching(7, 1), 1);
+    x.back(0);
+    DUE.is("back to one ASLEEP", x.catching(7, 0), 2 | 4 | 8 | 16 | 128);
+    CradleDuel y = oneAsleep();
+    y.undo();
+    DUE.is("1 is not ASLEEP", y.catching(0, 0), 1);
+    DUE.is("so it can be kept", y.keep(1, 0, 0), 0);
+    y.hears(1, 0, 1);
+    DUE.is("in a DUEL, too", y.catching(0, 0), 3);
+  }
+
+  private static void keepingBesideAsleep() {
+    CradleDuel x = oneAsleep();
+    DUE.is("1 is ASLEEP already", x.keep(1, 0, 0), -1);
+    DUE.is("1 is ASLEEP already", x.keep(1, 0, 1), -1);
+    DUE.is("none need be", x.keep(2, 0, 0), 0);
+    DUE.is("none need be", x.keep(2, 1, 1), 0);
+    x.hears(2, 1, 1);
+    DUE.is("1 is led away: 2 hears no one ASLEEP", x.keep(2, 0, 0), 1);
+    DUE.is("1 is led away", x.keep(2, 0, 1), 2);
+    DUE.is("who falls ASLEEP can't be led away", x.keep(2, 1, 0), -1);
+    x.hears(3, 2, 1);
+    x.hears(3, 0, 1);
+    DUE.is("3 hears 0", x.keep(3, 0, 0), -1);
+    DUE.is("by 1 and 2: 1 is the lower", x.keep(3, 7, 1), 2);
+    DUE.is("2 alone can be", x.keep(3, 1, 1), 4);
+    x.hears(4, 3, 1);
+    x.hears(4, 7, 1);
+    x.hears(5, 4, 1);
+    DUE.is("4", x.keep(5, 7, 1), 16);
+    x.hears(5, 3, 1);
+    DUE.is("1 or 2 or 3, and 4", x.keep(5, 7, 0), 2);
+    DUE.is("1 and 4", x.keep(5, 7, 1), 2 | 16);
+    x.dawn();
+    x.terms(2, 999);
+    DUE.is("nobody is ASLEEP behind a DAWN", x.keep(1, 0, 0), 0);
+    DUE.is("4 alone", x.keep(5, 7, 1), 16);
+  }
+
   public static void main(String[] args) {
     sights();
     fitting();
@@ -207,6 +283,8 @@ public final class StrangersTest {
     halves();
     catchingSleep();
     keeping();
+    catchingBesideAsleep();
+    keepingBesideAsleep();
     DUE.end("promises 32 to 36");
   }
 }
