@@ -15,6 +15,10 @@ public final class DecadesTest {
     DUE.is("drawn of none", x.drawn(0, 0), -1);
     DUE.is("drawn of none", x.drawn(0, 1), -1);
     DUE.is("drawn of none", x.drawn(0, 2), -1);
+    CradleDuel z = new CradleDuel();
+    z.singer(100, 1, 1);
+    z.verse(10, 1);
+    DUE.is("no SINGER of CLAN 0", z.decade(0, 1), -3);
     CradleDuel y = Due.two(100, 100);
     DUE.is("no VERSES", y.decade(0, 1), -3);
     DUE.is("status", y.status(), -3);
@@ -81,6 +85,7 @@ public final class DecadesTest {
   private static void edges() {
     CradleDuel x = Due.two(10, 10);
     x.verse(10, 1);
+    x.image(0);
     x.terms(0, 998);
     DUE.inForce(x, "wakes day - 900;lulls 0;tires 0");
     DUE.is("ends behind DAY 999", x.decade(5, 60), 0);
@@ -99,6 +104,13 @@ public final class DecadesTest {
     DUE.is("lost", x.drawn(0, 2), 3);
     DUE.is("lost", x.drawn(1, 2), 0);
     DUE.is("WAKE", x.drawn(0, 0), 1);
+    x.back(0);
+    DUE.inForce(x, "lulls 0;lulls 999 if hour = 11 and skill = 5;tires 0;wakes 0");
+    DUE.is("the 24th VERSE", x.decade(5, 1), 0);
+    DUE.is("lost", x.drawn(0, 2), 1);
+    DUE.is("WAKE 0 of the first: no DUEL", x.decade(5, 9), 0);
+    DUE.is("lost once", x.drawn(0, 2), 1);
+    DUE.is("WAKE", x.drawn(1, 0), 10);
     DUE.inForce(x, "bars;wakes 1");
     DUE.is("all BARRED: DRAWS", x.decade(5, 3), 0);
     DUE.is("WAKE", x.drawn(0, 0), 13);

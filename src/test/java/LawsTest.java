@@ -39,6 +39,7 @@ public final class LawsTest {
     DUE.is("1,000,000,000 is not beyond", lulls("1000 * 1000 * 1000 / 1000 / 1000 / 1000"), 1);
     DUE.is("beyond on the way", lulls("[1000 * 1000 * 1000 + 1] / 1000 / 1000 / 1000"), 20);
     DUE.is("beyond below", lulls("[0 - 1000 * 1000 * 1000 - 1] / 1000 / 1000 / 1000"), 20);
+    DUE.is("-1,000,000,000 is not beyond", lulls("[0 - 1000 * 1000 * 1000] / 1000 / 1000 / 1000 + 4"), 3);
     DUE.is("beyond by *", lulls("1000 * 1000 * 1000 * 1000 * 0"), 20);
     DUE.is("/ 0", lulls("5 / 0"), 20);
     DUE.is("% 0", lulls("5 % [1 - 1]"), 20);
@@ -61,6 +62,10 @@ public final class LawsTest {
     so("2 = 2", true);
     so("not 2 = 2", false);
     so("not not 2 = 2", true);
+    so("not 1 < 2", false);
+    so("not 2 > 1", false);
+    so("not 2 < 1", true);
+    so("not 1 > 2", true);
     so("1 = 1 or 1 = 1 and 1 = 2", true);
     so("(1 = 1 or 1 = 1) and 1 = 2", false);
     so("not 1 = 2 and 1 = 2", false);

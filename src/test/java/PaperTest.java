@@ -135,6 +135,86 @@ public final class PaperTest {
     DUE.is("ASLEEP, too", x.rule(0, 1), -1);
   }
 
+  private static void barelyAwake() {
+    CradleDuel x = Due.two(1, 1);
+    x.singer(0, 0, 1);
+    x.singer(0, 0, 0);
+    x.verse(5, 0);
+    DUE.is("who begins wins", x.rule(0, 1), 1);
+    DUE.is("who begins wins", x.rule(1, 0), 1);
+    saddle(x, 1, 0, 1, 1, 0, 0);
+    DUE.is("WAKE 1 and 0", x.rule(0, 2), 1);
+    DUE.is("WAKE 0 and 1", x.rule(2, 0), -1);
+    saddle(x, 0, 2, 1, 1, 0, 0);
+    saddle(x, 2, 0, -1, -1, 0, 0);
+    DUE.inForce(x, "bars if skill = 3");
+    DUE.is("none: a DRAW", x.rule(0, 1), 0);
+    DUE.is("WAKE 0 is at once", x.rule(0, 2), 1);
+    saddle(x, 0, 1, 0, 0, 0, 0);
+    saddle(x, 0, 2, 1, 1, 0, 0);
+  }
+
+  // the 24th VERSE still counts, and the lowest of those that LULL alike is sung
+  private static void lastVerse() {
+    CradleDuel x = Due.two(100, 80);
+    x.verse(5, 0);
+    x.verse(5, 1);
+    DUE.inForce(x, "lulls 0;tires 0;lulls 999 if hour = 11 and skill = 5");
+    DUE.is("rule", x.rule(0, 1), -1);
+    DUE.is("rule", x.rule(1, 0), 1);
+    saddle(x, 0, 1, -1, -1, 0, 0);
+    DUE.inForce(x, "lulls 50;tires 0;lulls 999 if hour = 0 and skill = 5 and same = 1 and key = 1");
+    DUE.is("the lowest", x.rule(0, 1), 1);
+  }
+
+  // VERSES and SINGERS that are gone by back() are sung by nobody
+  private static void behindBack() {
+    CradleDuel x = Due.two(100, 80);
+    x.verse(1, 0);
+    DUE.inForce(x, "lulls strong");
+    x.image(0);
+    x.verse(99, 1);
+    x.singer(1, 0, 0);
+    x.singer(1, 0, 1);
+    x.piece(9, 0, 1);
+    DUE.is("rule", x.rule(0, 1), 1);
+    DUE.is("made", x.made(36, -1), 9);
+    x.back(0);
+    DUE.is("rule", x.rule(0, 1), 0);
+    saddle(x, 0, 1, 0, 0, 0, 0);
+    DUE.is("won", x.champions(0), 0);
+    DUE.is("against 1", x.champions(2), 1);
+    DUE.is("no such", x.champions(4), -1);
+    DUE.is("made", x.made(36, -1), -1);
+    x.begin(0, 1, 1);
+    game(x, 4, 0, -1, 0);
+    // with all places taken, nothing behind the last one is looked at
+    CradleDuel y = new CradleDuel();
+    for (int i = 0; i < 4; i++) y.singer(500, i, 0);
+    for (int i = 0; i < 4; i++) y.singer(500, i, 1);
+    for (int i = 0; i < 10; i++) y.verse(1 + i, 0);
+    DUE.inForce(y, "lulls 0");
+    saddle(y, 0, 4, 0, 0, 0, 0);
+    DUE.is("eight SINGERS, ten VERSES", y.champions(0), 0);
+    for (int i = 0; i < 4; i++) DUE.is("in order", y.champions(2 + i), 4 + i);
+    DUE.is("no such", y.champions(6), -1);
+    DUE.is("won", y.decade(3, 60), 0);
+  }
+
+  private static void firstChampion() {
+    CradleDuel x = Due.two(100, 80);
+    x.verse(99, 1);
+    x.singer(100, 1, 0);
+    DUE.is("won", x.champions(0), 1);
+    DUE.is("SINGER 0", x.champions(2), 1);
+    DUE.is("no such", x.champions(3), -1);
+    DUE.is("nobody is left", x.champions(4), 100);
+    DUE.inForce(x, "bars if skill = 3");
+    DUE.is("won", x.champions(0), 1);
+    DUE.is("SINGER 0", x.champions(2), 100);
+    DUE.is("SINGER 2", x.champions(4), 1);
+  }
+
   private static void champions() {
     CradleDuel x = new CradleDuel();
     DUE.is("none", x.champions(0), 0);
@@ -196,6 +276,8 @@ public final class PaperTest {
     DUE.is("length 0", x.made(0, -1), -1);
     DUE.is("length 37", x.made(37, -1), -1);
     DUE.is("short ones", x.made(3, -1), 2 + 2 + 1 + 6);
+    DUE.is("LONG 1", x.made(1, -1), 2);
+    DUE.is("LONG 1", x.made(1, 0), 2);
     CradleDuel y = new CradleDuel();
     y.piece(9, 0, 1);
     y.piece(9, 1, 1);
@@ -211,6 +293,10 @@ public final class PaperTest {
     gameAtTheEnd();
     saddles();
     rules();
+    barelyAwake();
+    lastVerse();
+    behindBack();
+    firstChampion();
     champions();
     making();
     DUE.end("promises 27 to 31");

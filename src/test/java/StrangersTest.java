@@ -124,6 +124,18 @@ public final class StrangersTest {
     DUE.is("501 each: the lowest", x.fits(0, 3), 0);
     DUE.inForce(x, "lulls same;lulls 1 + hour if strong = 50");
     DUE.is("HOUR 0, not SAME", x.fits(0, 3), 1);
+    x.force(-1);
+    x.image(0);
+    // 599 and 549; in HOUR 1 the first VERSE would be the better one
+    DUE.inForce(x, "lulls 400 + hour * 99;lulls 450 if strong = 50");
+    DUE.is("HOUR 0", x.fits(0, 3), 1);
+    x.back(0);
+    DUE.inForce(x, "lulls 0;lulls 999 if strong = 50");
+    DUE.is("999 sleeps, too: 999 each, the lowest", x.fits(0, 3), 0);
+    x.back(0);
+    DUE.inForce(x, "lulls 0;lulls 400 if strong = 40 and skill = 3;lulls 400 if strong = 50 and skill = 5");
+    DUE.is("by who sings", x.fits(0, 3), 0);
+    DUE.is("by who sings", x.fits(0, 4), 1);
     CradleDuel y = Due.two(100, 80);
     y.verse(40, 0);
     DUE.inForce(y, "lulls 998");
@@ -239,6 +251,12 @@ public final class StrangersTest {
     DUE.is("one round", x.catching(7, 1), 1);
     x.back(0);
     DUE.is("back to one ASLEEP", x.catching(7, 0), 2 | 4 | 8 | 16 | 128);
+    CradleDuel z = Due.two(1, 1);
+    z.verse(1, 0);
+    z.begin(1, 0, 1);
+    z.sing(0);
+    DUE.is("SINGER 0 is ASLEEP", z.catching(1, 0), 3);
+    DUE.is("SINGER 0 is ASLEEP", z.keep(0, 1, 0), -1);
     CradleDuel y = oneAsleep();
     y.undo();
     DUE.is("1 is not ASLEEP", y.catching(0, 0), 1);

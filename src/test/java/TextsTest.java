@@ -52,6 +52,29 @@ public final class TextsTest {
     DUE.is("a row of a half", x.row(), 0);
     DUE.is("coughs", x.coughs(), 1);
     DUE.is("status", x.status(), 0);
+    CradleDuel y = new CradleDuel();
+    Due.put(y, "\5\1\6\2");
+    DUE.is("whole pairs alone", y.row(), 2);
+    DUE.is("coughs", y.coughs(), 0);
+    DUE.is("the last one's KEY", y.at(1, 1), 2);
+  }
+
+  // what stood behind the TAPE's end is no part of the last TOKEN
+  private static void cutTokens() {
+    CradleDuel x = Due.two(300, 200);
+    x.verse(20, 0);
+    x.begin(0, 1, 1);
+    Due.put(x, "lulls 12;bars");
+    x.end(7);
+    DUE.is("lulls 1", x.force(x.law()), -1);
+    DUE.is("lulls 1", x.asks(0, 0), 1);
+    Due.put(x, "lulls 1 if");
+    x.end(9);
+    DUE.is("i, not if", x.law(), -6);
+    DUE.is("fault", x.fault(), 8);
+    DUE.lawFaults(x, "lulls 1 ifz 1 = 1", 8);
+    DUE.lawFaults(x, "lulls 1 ifa 1 = 1", 8);
+    DUE.lawFaults(x, "lulls 1 if 1 = 1 zor 1 = 1", 17);
   }
 
   private static void lawFaults() {
@@ -177,6 +200,10 @@ public final class TextsTest {
     DUE.is("hour and turn are -1", Due.orders(x, "dawn times 3 if hour = 0 - 1 and turn + 1 = 0; dawn times 20 if day < 5"), 5);
     DUE.is("DAY", x.count(15), 5);
     DUE.is("cows", Due.orders(x, "dawn if cows 0 = 100 and cows 1 = 100 and wake 7 = 0 - 1"), 1);
+    x.cows(0, 7);
+    DUE.is("of which CLAN", Due.orders(x, "dawn if cows 0 = 7;dawn times 1 if cows 1 = 100"), 2);
+    DUE.is("of which CLAN", Due.orders(x, "dawn if cows 0 = 100 or cows 1 = 7"), 0);
+    DUE.is("of which SINGER", Due.orders(x, "dawn if wake 0 = wake 1;dawn if wake 0 = " + x.of(0, 0) + " and wake 1 = " + x.of(1, 0)), 1);
     DUE.is("a BROKEN if is not so", Due.orders(x, "dawn if 1 / 0 = 1; dawn if 1 = 1 or 1 / 0 = 1; dawn if not 1 % 0 = 1; dawn if 1 = 2 and 1 / 0 = 1"), 1);
     DUE.is("nothing is run", Due.orders(x, "sing 77 if 1 = 2"), 0);
     DUE.is("status", x.status(), 0);
@@ -230,6 +257,7 @@ public final class TextsTest {
   public static void main(String[] args) {
     tape();
     rows();
+    cutTokens();
     lawFaults();
     limits();
     orderFaults();
