@@ -297,6 +297,17 @@ public final class EdgesOfImagesTest {
     }
   }
 
+  private static void manyCalls() {
+    DUE.says("41: 5 how many can be undone");
+    CradleDuel x = new CradleDuel();
+    for (int i = 0; i < 255; i++) {
+      DUE.is("dawn", x.dawn(), 0);
+      DUE.is("undo", x.undo(), 3);
+    }
+    DUE.is("the 511th call", x.dawn(), 0);
+    DUE.is("the 512th call", x.count(5), 1);
+  }
+
   public static void main(String[] args) {
     whichImages();
     refusedBack();
@@ -307,6 +318,7 @@ public final class EdgesOfImagesTest {
     counts();
     statusOfEach();
     othersLeaveIt();
+    manyCalls();
     DUE.end("edges of promises 39 to 42");
   }
 }

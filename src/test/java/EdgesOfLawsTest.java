@@ -166,37 +166,30 @@ public final class EdgesOfLawsTest {
   private static void wordsOfAVerse() {
     DUE.says("II: the others of a VERSE sung by one in an HOUR (skill: of who sings; same: 1, if its KEY is that sung last in that DUEL, else 0;"
         + " wake: of who hears; theirs: SKILL of that one).");
-    String[] words = {"skill", "strong", "key", "same", "hour", "wake", "theirs", "day", "mood"};
-    CradleDuel x = Due.two(700, 600);
-    x.verse(1, 1);
-    x.verse(2, 2);
-    x.terms(0, 77);
-    x.terms(3, 9);
-    x.begin(0, 1, 9);
-    int[] due = {3, 2, 2, 0, 0, 600, 5, 77, 9};
-    askAll(x, 1, words, due);
-    x.sing(0);
+    askAll(0, 1, 3, 2, 2, 0, 0, 600, 5, 77, 9);
     // the other one sings: 700 is as it was, STRONG 1 tires by 0
-    askAll(x, 0, words, new int[] {5, 1, 1, 1, 0, 700, 3, 77, 9});
-    askAll(x, 1, words, new int[] {5, 2, 2, 0, 0, 700, 3, 77, 9});
-    x.sing(1);
+    askAll(1, 0, 5, 1, 1, 1, 0, 700, 3, 77, 9);
+    askAll(1, 1, 5, 2, 2, 0, 0, 700, 3, 77, 9);
     // 600 - 1 heard; the next HOUR
-    askAll(x, 1, words, new int[] {3, 2, 2, 1, 1, 599, 5, 77, 9});
-    askAll(x, 0, words, new int[] {3, 1, 1, 0, 1, 599, 5, 77, 9});
-    x.part();
-    x.begin(0, 1, 9);
-    askAll(x, 1, words, new int[] {3, 2, 2, 0, 0, 599, 5, 77, 9});
+    askAll(2, 1, 3, 2, 2, 1, 1, 599, 5, 77, 9);
+    askAll(2, 0, 3, 1, 1, 0, 1, 599, 5, 77, 9);
   }
 
-  // in "lulls" (all are below 1000), in "tires" and in the TEST of "bars"
-  private static void askAll(CradleDuel x, int verse, String[] words, int[] due) {
-    x.image(0);
+  // each word behind so many VERSES, in "lulls" (all are below 1000), in "tires" and in the TEST of "bars"
+  private static void askAll(int sung, int verse, int... due) {
+    String[] words = {"skill", "strong", "key", "same", "hour", "wake", "theirs", "day", "mood"};
     for (int i = 0; i < words.length; i++) {
-      x.force(Due.law(x, "lulls " + words[i] + ";tires " + words[i] + ";bars if " + words[i] + " = " + due[i]));
+      CradleDuel x = Due.two(700, 600);
+      x.verse(1, 1);
+      x.verse(2, 2);
+      x.terms(0, 77);
+      x.terms(3, 9);
+      x.begin(0, 1, 9);
+      for (int k = 0; k < sung; k++) x.sing(k);
+      DUE.inForce(x, "lulls " + words[i] + ";tires " + words[i] + ";bars if " + words[i] + " = " + due[i]);
       DUE.is("lulls " + words[i], x.asks(verse, 0), due[i]);
       DUE.is("tires " + words[i], x.asks(verse, 1), Math.min(99, due[i]));
       DUE.is("bars if " + words[i] + " = " + due[i], x.asks(verse, 2), 1);
-      x.back(0);
     }
   }
 
@@ -386,7 +379,7 @@ public final class EdgesOfLawsTest {
   }
 
   private static void barred() {
-    DUE.says("II: a VERSE is BARRED, if \"bars\" HOLDS.");
+    DUE.says("II: a VERSE is BARRED, if \"bars\" HOLDS.", "III: To SING: who has the turn SINGS a VERSE that is not BARRED:");
     CradleDuel x = Due.duel(100, 80);
     x.force(Due.law(x, "bars if key = 2"));
     DUE.is("not", x.asks(0, 2), 0);
@@ -419,6 +412,22 @@ public final class EdgesOfLawsTest {
     DUE.is("KEY", x.duel(5), 1);
     DUE.is("not so: its SUMS are not asked", Due.orders(x, "sing 1 / 0 if 1 = 2;begin 1 / 0 with 1 for 1 if 1 / 0 = 1"), 0);
     DUE.is("stopped", x.stopped(), -1);
+  }
+
+  private static void whatSumsAre() {
+    DUE.says("II: (two SINGERS, a STAKE; a VERSE.)");
+    CradleDuel x = Due.two(300, 200);
+    x.verse(20, 0);
+    x.verse(30, 1);
+    DUE.is("begin", Due.orders(x, "begin 2 - 1 with 1 - 1 for 100 - 1"), 1);
+    DUE.is("the first, the second, the STAKE", x.duel(0) * 1000 + x.duel(1) * 100 + x.duel(2), 1099);
+    DUE.is("the first one's turn", x.duel(4), 1);
+    DUE.is("sing", Due.orders(x, "sing 3 % 2"), 1);
+    DUE.is("the VERSE", x.duel(5) * 1000 + x.of(0, 0), 1270);
+    DUE.is("part", Due.orders(x, "part"), 1);
+    DUE.is("no DUEL", x.duel(0), -1);
+    DUE.is("dawn", Due.orders(x, "dawn"), 1);
+    DUE.is("DAY", x.count(15), 1);
   }
 
   private static void wordsOfOrders() {
@@ -509,6 +518,7 @@ public final class EdgesOfLawsTest {
     asksOfAVerse();
     barred();
     runByTimes();
+    whatSumsAre();
     wordsOfOrders();
     allAsItWas();
     lastDayInOrders();

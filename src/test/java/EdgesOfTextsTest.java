@@ -224,7 +224,7 @@ public final class EdgesOfTextsTest {
   }
 
   private static void blanksAlone() {
-    DUE.says("14: -6 (blanks alone: FAULT at the end).", "15: -6 (as for law()).");
+    DUE.says("14: -6 (blanks alone: FAULT at the end).", "15: -6 (as for law()).", "I: -6 a TEXT, a ROW that can't be.");
     for (int many = 0; many < 5; many++) {
       CradleDuel x = fresh();
       List<String> ahead = Due.look(x);

@@ -45,6 +45,33 @@ public final class EdgesOnPaperTest {
     }
   }
 
+  private static void fromTheDuelAsItIs() {
+    DUE.says("III: A GAME of n VERSES from the DUEL as it is: both know all;", "III: : who;");
+    CradleDuel x = Due.duel(100, 100);
+    Due.law(x, "lulls 10;tires 0");
+    Due.law(x, "tires 0;lulls 0;lulls 999 if hour = 1");
+    Due.law(x, "tires 0;lulls 0;lulls 999 if same = 1 and hour = 0");
+    Due.law(x, "tires 0;lulls 0;lulls wake if wake = 90");
+    x.force(0);
+    x.sing(1);
+    // the second one's turn in HOUR 0, behind KEY 2, WAKE 100 and 90
+    x.force(1);
+    game(x, 1, 0, -1, 0);
+    game(x, 4, 2, 1, 0);
+    x.force(2);
+    game(x, 4, 1, 0, 1);
+    x.force(3);
+    game(x, 1, 0, -1, 0);
+    game(x, 2, 2, 1, 0);
+    x.force(0);
+    x.sing(0);
+    // the first one's in HOUR 1, behind KEY 1, WAKE 90 both
+    x.force(1);
+    game(x, 1, 1, 1, 0);
+    x.force(3);
+    game(x, 1, 1, 1, 0);
+  }
+
   private static void duelEnds() {
     DUE.says("III: it is a DRAW, if the DUEL ends)");
     CradleDuel x = Due.duel(999, 999);
@@ -486,6 +513,7 @@ public final class EdgesOnPaperTest {
   public static void main(String[] args) {
     noDuel();
     inWhichVerse();
+    fromTheDuelAsItIs();
     duelEnds();
     soonerIsBetter();
     laterIsBetter();

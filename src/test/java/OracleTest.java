@@ -13,6 +13,8 @@ public final class OracleTest {
     "of", "at", "asks", "wakes", "duel", "count", "fault", "stopped", "coughs", "status", "drawn", "game", "saddle",
     "rule", "champions", "made", "fits", "catching", "keep"};
 
+  private static final int MOST_CALLS = 512;
+
   private final Random random;
   private final CradleDuel real = new CradleDuel();
   private final Oracle plain = new Oracle();
@@ -33,6 +35,7 @@ public final class OracleTest {
     Object[] boxed = new Object[args.length];
     for (int i = 0; i < args.length; i++) boxed[i] = args[i];
     calls++;
+    if (calls > MOST_CALLS) throw new IllegalStateException("more calls than are promised");
     int want = (Integer) PLAIN.get(name).invoke(plain, boxed);
     int got;
     try {
@@ -61,8 +64,8 @@ public final class OracleTest {
     return least + random.nextInt(most - least + 1);
   }
 
-  private int singerNumber() throws Exception { return some(0, Math.max(0, real.count(0) - 1)); }
-  private int verseNumber() throws Exception { return some(0, Math.max(0, real.count(1) - 1)); }
+  private int singerNumber() throws Exception { return some(0, Math.max(0, plain.count(0) - 1)); }
+  private int verseNumber() throws Exception { return some(0, Math.max(0, plain.count(1) - 1)); }
 
   private String part(int deep, boolean law) {
     int dice = random.nextInt(10);
@@ -133,7 +136,7 @@ public final class OracleTest {
   }
 
   private void feed(String text) throws Exception {
-    if (real.count(6) != 0 && random.nextInt(5) != 0) call("end", 0);
+    if (plain.count(6) != 0 && random.nextInt(5) != 0) call("end", 0);
     for (int i = 0; i < text.length(); i += 20) {
       int[] five = new int[5];
       for (int k = 0; k < 20; k++) {
@@ -151,7 +154,7 @@ public final class OracleTest {
     call("fault");
     if (!law) {
       call("stopped");
-      for (int i = 0; i < real.count(0); i++) call("of", i, 0);
+      for (int i = 0; i < plain.count(0); i++) call("of", i, 0);
     }
     if (law && got >= 0 && random.nextInt(4) != 0) call("force", got);
   }
@@ -175,12 +178,12 @@ public final class OracleTest {
       case "duel": call(name, some(0, 5)); break;
       case "count": call(name, some(0, 18)); break;
       case "drawn": call(name, singerNumber(), some(0, 2)); break;
-      case "game": if (real.count(1) <= 5 || random.nextInt(4) == 0) call(name, some(1, real.count(1) > 6 ? 3 : 4), some(0, 2)); break;
+      case "game": if (plain.count(1) <= 5 || random.nextInt(4) == 0) call(name, some(1, plain.count(1) > 6 ? 3 : 4), some(0, 2)); break;
       case "saddle": call(name, singerNumber(), singerNumber(), some(0, 3)); break;
       case "rule": call(name, singerNumber(), singerNumber()); break;
       case "champions": call(name, some(0, 9)); break;
       case "made": call(name, some(1, 36), some(-1, 3)); break;
-      case "fits": call(name, some(0, 9), some(0, 2 + Math.max(1, real.count(0)))); break;
+      case "fits": call(name, some(0, 9), some(0, 2 + Math.max(1, plain.count(0)))); break;
       case "catching": call(name, singerNumber(), some(0, 1)); break;
       case "keep": call(name, singerNumber(), singerNumber(), some(0, 1)); break;
       default: call(name); break;
@@ -208,7 +211,7 @@ public final class OracleTest {
     else if (dice < 21) row();
     else if (dice < 24) read(true);
     else if (dice < 28) read(false);
-    else if (dice < 30) call("force", some(-1, Math.max(0, real.count(4) - 1)));
+    else if (dice < 30) call("force", some(-1, Math.max(0, plain.count(4) - 1)));
     else if (dice < 42) call("begin", singerNumber(), singerNumber(), some(1, 99));
     else if (dice < 76) call("sing", verseNumber());
     else if (dice < 77) call("part");
@@ -225,7 +228,7 @@ public final class OracleTest {
   private void beginWell() throws Exception {
     int a = random.nextInt(8);
     int b = random.nextInt(8);
-    for (int i = 0; i < 64 && (real.of(a, 0) <= 0 || real.of(b, 0) <= 0 || real.of(a, 2) == real.of(b, 2)); i++) {
+    for (int i = 0; i < 64 && (plain.of(a, 0) <= 0 || plain.of(b, 0) <= 0 || plain.of(a, 2) == plain.of(b, 2)); i++) {
       a = random.nextInt(8);
       b = random.nextInt(8);
     }
@@ -234,12 +237,12 @@ public final class OracleTest {
 
   private void duelWell() throws Exception {
     int dice = random.nextInt(20);
-    if (real.duel(0) < 0) {
+    if (plain.duel(0) < 0) {
       if (dice < 4) call("dawn"); else beginWell();
     } else if (dice < 13) {
       call("sing", verseNumber());
     } else if (dice < 15) {
-      call("game", some(1, real.count(1) > 6 ? 3 : 4), some(0, 2));
+      call("game", some(1, plain.count(1) > 6 ? 3 : 4), some(0, 2));
     } else if (dice < 18) {
       call("asks", verseNumber(), some(0, 2));
     } else if (dice < 19) {
@@ -263,16 +266,16 @@ public final class OracleTest {
     call("orders");
     call("stopped");
     call("count", 5);
-    for (int i = 0; i < real.count(0); i++) call("of", i, some(0, 4));
+    for (int i = 0; i < plain.count(0); i++) call("of", i, some(0, 4));
     call("duel", some(0, 5));
     if (random.nextInt(4) == 0) for (int i = 0; i < 17; i++) call("undo");
   }
 
   // a DUEL to its end, so that somebody may be ASLEEP; now and then all are woken
   private void singAsleep() throws Exception {
-    if (real.duel(0) < 0 && random.nextInt(5) == 0) call("dawn");
-    if (real.duel(0) < 0) beginWell();
-    for (int i = 0; i < 24 && real.duel(0) >= 0; i++) call("sing", verseNumber());
+    if (plain.duel(0) < 0 && random.nextInt(5) == 0) call("dawn");
+    if (plain.duel(0) < 0) beginWell();
+    for (int i = 0; i < 24 && plain.duel(0) >= 0; i++) call("sing", verseNumber());
   }
 
   private void sleepWell() throws Exception {
@@ -295,11 +298,11 @@ public final class OracleTest {
         "lulls 999 if wake < 9;lulls wake / 3 if wake > 100;wakes "};
       feed(laws[random.nextInt(laws.length)] + (1 + random.nextInt(30)));
       if (call("law") < 0) call("back", 0);
-      call("force", real.count(4) - 1);
+      call("force", plain.count(4) - 1);
     } else if (dice < 7) {
       call("sight", verseNumber(), singerNumber(), some(0, 11), some(0, 1), random.nextInt(7) == 0 ? 1 : 0);
     } else {
-      call("fits", some(0, 9), some(0, 2 + Math.max(1, real.count(0))));
+      call("fits", some(0, 9), some(0, 2 + Math.max(1, plain.count(0))));
     }
   }
 
@@ -320,7 +323,7 @@ public final class OracleTest {
     for (int i = 0; i < singers; i++) call("singer", wake(), some(0, 9), some(0, 1));
     for (int i = 0; i < verses; i++) call("verse", random.nextBoolean() ? some(1, 99) : some(1, 12), some(0, 4));
     if (random.nextInt(3) == 0) call("terms", 1, some(1, 60));
-    while (calls < 500) {
+    while (calls < MOST_CALLS - 60) {
       int dice = random.nextInt(4);
       if (theme == 0 || dice == 0) lookOrAct();
       else if (theme == 1) duelWell();
