@@ -61,14 +61,11 @@ public final class CradleDuel {
   }
 
   public int singer(int wake, int skill, int clan) {
-    if (!within(wake, 0, MOST_WAKE) || !within(skill, 0, 9) || !within(clan, 0, 1)) {
-      return refuse(BAD_NUMBER);
+    int number = hills.addSinger(wake, skill, clan);
+    if (number >= 0) {
+      deeds.clearUndone();
     }
-    if (hills.singers >= MOST_SINGERS) {
-      return refuse(NO_ROOM);
-    }
-    deeds.clearUndone();
-    return accept(hills.addSinger(wake, skill, clan));
+    return tell(number);
   }
 
   public int of(int singer, int what) {
@@ -601,6 +598,9 @@ public final class CradleDuel {
     }
 
     int addSinger(int wake, int skilled, int whose) {
+      if (!within(wake, 0, MOST_WAKE) || !within(skilled, 0, 9) || !within(whose, 0, 1)) {
+        return BAD_NUMBER;
+      }
       if (singers >= MOST_SINGERS) {
         return NO_ROOM;
       }

@@ -109,6 +109,22 @@ public final class EdgesOfLawsTest {
     broken("not not 1 / 0 = 1");
   }
 
+  private static void longTests() {
+    DUE.says("II: TEST: BOTH {\"or\" BOTH}. BOTH: PLAIN {\"and\" PLAIN}.");
+    so("1=2 or ".repeat(24) + "1=1");
+    notSo("1=2 or ".repeat(24) + "1=2");
+    so("1=1 and ".repeat(24) + "1=1");
+    notSo("1=1 and ".repeat(24) + "1=2");
+    so("1=2 and 1=1 or ".repeat(12) + "1=1");
+    notSo("1=1 and 1=2 or ".repeat(12) + "1=2");
+    // all that can wait at once: in 8 brackets a SUM and a TERM each
+    String deep = "1+1*[".repeat(8) + "1" + "]".repeat(8);
+    so("1=2 or ".repeat(15) + "9=" + deep);
+    so("1=1 and ".repeat(15) + "9=" + deep);
+    DUE.is("8 is not 9", isSo("1=2 or ".repeat(15) + "8=" + deep) ? 1 : 0, 0);
+    so("(1=2 or ".repeat(7) + "9=" + "1+1*[" + "1" + "]+7" + ")".repeat(7));
+  }
+
   private static void lessAndMore() {
     DUE.says("II: PLAIN: \"not\" PLAIN | \"(\" TEST \")\" | SUM (\"<\" | \">\" | \"=\") SUM.");
     for (int left = 0; left < 4; left++) {
@@ -454,7 +470,7 @@ public final class EdgesOfLawsTest {
   private static void allAsItWas() {
     DUE.says("II: One that can't be (a BROKEN SUM, as begin(), sing(), part(), dawn() are REFUSED) ends it: all is as it was ahead of it.");
     String[] cannot = {
-      "sing 1 / 0", "begin 1 / 0 with 1 for 1", "begin 0 with 1 / 0 for 1", "begin 0 with 1 for 1 / 0", "sing " + BILLION + " + 1",
+      "sing 1 / 0", "begin 1 / 0 with 1 for 1", "begin 0 with 1 / 0 for 1", "begin 1 with 1 / 0 for 1", "begin 0 with 1 for 1 / 0", "sing " + BILLION + " + 1",
       "begin 0 with 1 for 0", "begin 0 with 1 for 100", "begin 2 with 1 for 1", "begin 0 with 2 for 1", "begin 0 with 0 for 1",
       "begin 0 - 1 with 1 for 1", "sing 0", "part", "begin 0 with 1 for 1;begin 0 with 1 for 1", "begin 0 with 1 for 1;dawn",
       "begin 0 with 1 for 1;sing 2", "begin 0 with 1 for 1;sing 0 - 1", "dawn times 20" + ";dawn times 20".repeat(5) + ";sing 0"};
@@ -475,6 +491,30 @@ public final class EdgesOfLawsTest {
         DUE.is("undo", x.undo(), 3);
         DUE.is("DAY", x.count(15), i - 1);
       }
+    }
+  }
+
+  // more than are kept were done ahead, and ORDERS that can't be did as many anew
+  private static void keptAsItWas() {
+    DUE.says("II: all is as it was ahead of it.");
+    for (int many = 12; many <= 30; many++) {
+      CradleDuel x = Due.two(300, 200);
+      x.verse(1, 0);
+      for (int i = 0; i < many; i++) {
+        if (i % 3 == 0) x.begin(0, 1, 1);
+        if (i % 3 == 1) x.part();
+        if (i % 3 == 2) x.dawn();
+      }
+      if (many % 3 == 1) x.part();
+      int all = many % 3 == 1 ? many + 1 : many;
+      DUE.is("stops", Due.orders(x, "dawn times 7;begin 0 with 1 for 1;sing 0 times 13;part;dawn times 9;part"), -3);
+      DUE.is("count(5)", x.count(5), Math.min(16, all));
+      for (int i = all - 1; i >= Math.max(0, all - 16); i--) {
+        DUE.is("undo of " + i, x.undo(), i % 3 == 0 ? 0 : i % 3 + 1);
+        DUE.is("DAY", x.count(15), i / 3);
+        DUE.is("a DUEL or none", x.duel(0), i % 3 == 1 ? 0 : -1);
+      }
+      DUE.refused(x, "no more", x.undo(), -3);
     }
   }
 
@@ -504,6 +544,7 @@ public final class EdgesOfLawsTest {
     beyond();
     dividedByNothing();
     onlyIfItMatters();
+    longTests();
     lessAndMore();
     noneInForce();
     wordsOfAVerse();
@@ -521,6 +562,7 @@ public final class EdgesOfLawsTest {
     whatSumsAre();
     wordsOfOrders();
     allAsItWas();
+    keptAsItWas();
     lastDayInOrders();
     DUE.end("edges of promises 18 to 20, LAWS and ORDERS");
   }

@@ -184,6 +184,41 @@ public final class EdgesOfStrangersTest {
     fits(y, 10, 999, 990);
   }
 
+  // nothing that was asked ahead matters
+  private static void eachByItself() {
+    DUE.says("34: the least (what 0), the greatest (1), how many (2; 0), the VERSE a SINGER sings next (3 + SINGER).");
+    int[] due = {201, 999, 799, 1, 1};
+    int[] other = {601, 999, 399, 0, 0};
+    for (int what = 0; what < 5; what++) {
+      CradleDuel x = hills("lulls theirs * 100;lulls 400 if strong = 40");
+      x.sight(0, 0, 0, 0, 0);
+      DUE.is("fits(2, " + what + ")", x.fits(2, what), due[what]);
+      DUE.is("fits(6, " + what + ")", x.fits(6, what), other[what]);
+      DUE.is("fits(2, " + what + ") again", x.fits(2, what), due[what]);
+      x.forget();
+      int[] none = {1, 999, 999, 1, 1};
+      DUE.is("without SIGHTS", x.fits(2, what), none[what]);
+    }
+  }
+
+  // "wake" in whichever CLAUSE, behind LAWS that have others
+  private static void byWakeInAnyClause() {
+    DUE.says("III: by which a stranger slept just behind the last SIGHT that tells so");
+    for (int place = 0; place < 12; place++) {
+      CradleDuel x = hills(null);
+      Due.law(x, "bars if 1 = 2" + ";tires 1".repeat(11));
+      StringBuilder law = new StringBuilder();
+      for (int i = 0; i < 12; i++) law.append(i > 0 ? ";" : "").append(i == place ? "lulls wake / 2" : i % 2 == 0 ? "tires 5" : "wakes 5");
+      DUE.inForce(x, law.toString());
+      for (int i = 0; i < 3; i++) x.sight(0, 0, 0, 0, 0);
+      fits(x, 1, 999, 999);
+      DUE.inForce(x, law.toString().replace("wake / 2", "1 + 0 * strong if wake > 500"));
+      // 20 each, 1 each above 500: 502 has 499 left behind two
+      x.sight(0, 0, 0, 0, 0);
+      fits(x, 81, 999, 919);
+    }
+  }
+
   private static void nextVerse() {
     DUE.says("III: The VERSE to sing next (by a told SINGER, HOUR 0, not SAME): by which the more of both (slept, did not) is least, the lowest.",
         "34: the VERSE a SINGER sings next (3 + SINGER).");
@@ -380,6 +415,8 @@ public final class EdgesOfStrangersTest {
     whoDidNotSleep();
     inOrder();
     asItWasSeen();
+    eachByItself();
+    byWakeInAnyClause();
     nextVerse();
     noCatching();
     wakeOfCatch();

@@ -569,6 +569,27 @@ public final class EdgesOfTextsTest {
     DUE.is("none within one another", Due.law(fresh(), "bars if " + "(1=1) or ".repeat(9) + "(1=1)"), 0);
   }
 
+  private static void oneBehindTheOther() {
+    DUE.says("14: The TAPE, which is empty then, becomes a LAW", "II: FAULT: the first TOKEN that can't go on there");
+    CradleDuel x = fresh();
+    x.begin(0, 1, 1);
+    // what was read ahead, however much of it, and where it broke off, does not matter
+    for (int i = 0; i < 6; i++) DUE.lawFaults(x, "lulls 1" + "+1".repeat(49) + " if ?", 109);
+    for (int i = 0; i < 3; i++) DUE.lawFaults(x, "bars if " + "(".repeat(4) + "[".repeat(4) + "?", 16);
+    DUE.is("8 brackets behind that", Due.law(x, "bars if " + "(".repeat(4) + "[".repeat(4) + "1" + "]".repeat(4) + "=2" + ")".repeat(4)), 0);
+    for (int i = 0; i < 6; i++) DUE.ordersFault(x, "sing 1" + "+1".repeat(49) + "+?", 105);
+    DUE.is("12 CLAUSES behind that", Due.law(x, "tires 1" + ";wakes 1".repeat(9) + ";bars if 1 = 2;lulls 7 + " + "[".repeat(8) + "1" + "]".repeat(8)), 1);
+    x.force(1);
+    DUE.is("the 12th tells", x.asks(0, 0), 8);
+    DUE.is("one CLAUSE behind that", Due.law(x, "tires 3"), 2);
+    x.force(2);
+    DUE.is("it alone tells", x.asks(0, 0) * 10 + x.asks(0, 1), 203);
+    DUE.is("and what it was is not changed", x.wakes(0), 100);
+    x.force(1);
+    DUE.is("the 12th tells still", x.asks(0, 0) * 10 + x.asks(0, 1), 81);
+    DUE.is("ORDERS behind a LAW", Due.orders(x, "part;dawn times 2"), 3);
+  }
+
   public static void main(String[] args) {
     twentyBytes();
     highBytes();
@@ -593,6 +614,7 @@ public final class EdgesOfTextsTest {
     clausesAtMost();
     partsAtMost();
     bracketsAtMost();
+    oneBehindTheOther();
     DUE.end("edges of promises 10 to 17");
   }
 }

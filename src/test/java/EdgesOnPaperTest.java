@@ -433,6 +433,9 @@ public final class EdgesOnPaperTest {
       DUE.is("LONG " + length, x.made(length, -1), most[many]);
       for (int i = 0; i < 5; i++) DUE.is("PART " + i + " of LONG " + length, x.made(length, i), i < many ? i : -1);
     }
+    DUE.is("too short behind what could be", x.made(8, 0), -1);
+    DUE.is("too short behind what could be", x.made(8, -1), -1);
+    for (int i = 3; i >= 0; i--) DUE.is("backwards", x.made(9 * i + 9, i), i);
     CradleDuel y = new CradleDuel();
     y.piece(10, 0, 1);
     DUE.range("LONG", 1, 36, -1, length -> y.made(length, -1));
