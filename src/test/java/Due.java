@@ -101,6 +101,7 @@ final class Due {
     }
     for (int i = 0; i < 6; i++) all.add("duel(" + i + ") is " + x.duel(i));
     for (int i = -1; i < 4; i++) all.add("made(36, " + i + ") is " + x.made(36, i));
+    for (int i = 2; i < 6; i++) all.add("made(" + i + ", -1) is " + x.made(i, -1));
     for (int i = 0; i < 4; i++) all.add("fits(2, " + i + ") is " + x.fits(2, i));
     for (int i = 0; i < 3; i++) all.add("game(2, " + i + ") is " + x.game(2, i));
     for (int i = 0; i < 4; i++) all.add("champions(" + i + ") is " + x.champions(i));

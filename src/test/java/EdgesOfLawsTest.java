@@ -473,7 +473,7 @@ public final class EdgesOfLawsTest {
       "sing 1 / 0", "begin 1 / 0 with 1 for 1", "begin 0 with 1 / 0 for 1", "begin 1 with 1 / 0 for 1", "begin 0 with 1 for 1 / 0", "sing " + BILLION + " + 1",
       "begin 0 with 1 for 0", "begin 0 with 1 for 100", "begin 2 with 1 for 1", "begin 0 with 2 for 1", "begin 0 with 0 for 1",
       "begin 0 - 1 with 1 for 1", "sing 0", "part", "begin 0 with 1 for 1;begin 0 with 1 for 1", "begin 0 with 1 for 1;dawn",
-      "begin 0 with 1 for 1;sing 2", "begin 0 with 1 for 1;sing 0 - 1", "dawn times 20" + ";dawn times 20".repeat(5) + ";sing 0"};
+      "begin 0 with 1 for 1;sing 2", "begin 0 with 1 for 1;sing 1 / 0", "begin 0 with 1 for 1;sing 0 % 0", "begin 0 with 1 for 1;sing 0 - 1", "dawn times 20" + ";dawn times 20".repeat(5) + ";sing 0"};
     for (String last : cannot) {
       String text = "begin 0 with 1 for 7;sing 0;sing 1;part;dawn;" + last;
       CradleDuel x = Due.two(300, 200);

@@ -224,6 +224,16 @@ public final class EdgesOfSingersTest {
     for (int[] t : told) DUE.is("hears(0, 1, " + t[0] + ")", x.hears(0, 1, t[0]), t[1]);
     DUE.is("status", x.status(), 0);
     DUE.is("unlike SINGERS of one CLAN", singers(3).hears(0, 2, 1), 0);
+    CradleDuel y = singers(8);
+    for (int i = 1; i < 8; i++) y.hears(0, i, 1);
+    y.hears(3, 1, 1);
+    y.hears(0, 3, 0);
+    for (int i = 1; i < 8; i++) DUE.is("all the others stay: " + i, y.hears(0, i, 1), i == 3 ? 0 : 1);
+    for (int i = 1; i < 8; i++) {
+      y.hears(0, i, 0);
+      for (int j = 1; j < 8; j++) DUE.is("0 hears " + j, y.hears(0, j, j <= i ? 0 : 1), j <= i ? 0 : 1);
+    }
+    DUE.is("3 hears 1", y.hears(3, 1, 1), 1);
   }
 
   private static void hearsRefused() {

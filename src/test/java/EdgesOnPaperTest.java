@@ -232,6 +232,21 @@ public final class EdgesOnPaperTest {
     saddle(x, 0, 1, 0, 0, 0, 1);
   }
 
+  private static void saddleOfMany() {
+    DUE.says("III: the lowest VERSES for them.");
+    for (int best = 0; best < 10; best++) {
+      CradleDuel x = Due.two(100, 80);
+      for (int i = 0; i < 10; i++) x.verse(10 + i, i % 5);
+      DUE.inForce(x, "lulls 0;lulls 999 if skill = 3 and strong > 9 + " + best);
+      saddle(x, 0, 1, 1, 1, best, 0);
+      DUE.inForce(x, "lulls 0;lulls 999 if skill = 5 and strong > 9 + " + best);
+      saddle(x, 0, 1, -1, -1, 0, best);
+      DUE.inForce(x, "lulls 0;lulls 999 if skill = 5 and strong = 10 + " + best + ";bars if skill = 3 and strong = 10 + " + best);
+      // the first one's best is BARRED: a DRAW, whatever the second one sings
+      saddle(x, 0, 1, 0, 0, best, 0);
+    }
+  }
+
   private static void firstHourNone() {
     DUE.says("III: SADDLE: both choose one VERSE for all the DUEL (first HOUR 0, told SINGERS): the first one's RESULT: 1, 0, -1 (DRAW 0);");
     CradleDuel x = Due.duel(999, 999);
@@ -315,6 +330,9 @@ public final class EdgesOnPaperTest {
     DUE.inForce(x, "tires 0;lulls 0;lulls 100 if strong = 20 and skill = 3");
     DUE.is("won", x.rule(0, 1), 1);
     DUE.is("lost", x.rule(1, 0), -1);
+    DUE.inForce(x, "tires 50 - strong;lulls 0;lulls 100 if strong = 40 and skill = 3");
+    DUE.is("not what TIRES most", x.rule(0, 1), 1);
+    x.back(0);
     DUE.inForce(x, "tires 0;lulls 0;lulls 100 if strong = 20 and skill = 3;bars if strong = 20");
     DUE.is("what is BARRED is not sung", x.rule(0, 1), 0);
     DUE.inForce(x, "bars");
@@ -525,6 +543,7 @@ public final class EdgesOnPaperTest {
     onPaper();
     noSaddle();
     bestOfTheWorst();
+    saddleOfMany();
     firstHourNone();
     barredChoice();
     sleepsAtOnce();
